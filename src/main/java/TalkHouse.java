@@ -122,14 +122,12 @@ public final class TalkHouse {
         // The tape is taken whatever is answered, so it is emptied ahead of every test.
         tapeLength = 0;
         Device d = deviceAt(device);
-        if (d == null || rowAt(room) == null || kind < WORD || kind > QUOTED || !fitsKind(of, kind, room)) {
+        Row row = rowAt(room);
+        if (d == null || row == null || kind < WORD || kind > QUOTED || !fitsKind(of, kind, room)) {
             return BAD;
         }
-        if (d.outSize == OUT_LIMIT) {
-            return FULL;
-        }
         byte[] words = kind == GONE || kind == PINNED ? NO_TEXT : Arrays.copyOf(tape, length);
-        return d.putOut(new Letter(room, kind, of, words));
+        return d.putOut(new Letter(row, kind, of, words));
     }
 
     public int send(int device, int number) {
@@ -154,7 +152,7 @@ public final class TalkHouse {
             return BAD;
         }
         switch (what) {
-            case 0: return letter.room;
+            case 0: return letter.row.room;
             case 1: return letter.kind;
             case 2: return letter.of;
             case 3: return letter.words.length;
@@ -496,8 +494,7 @@ public final class TalkHouse {
 
     /** TAKEN, or the first of the keeper's conditions that the letter does not meet. */
     private int keepersVerdict(Letter letter, int member) {
-        Row row = rowAt(letter.room);
-        if (row == null || !row.hasInside(member)) {
+        if (!letter.row.hasInside(member)) {
             return NOT_IN;
         }
         if (letter.kind != WORD) {
@@ -510,16 +507,12 @@ public final class TalkHouse {
                 return NOT_ITS_OWN;
             }
         }
-        return row.isFull() ? NO_PLACE_LEFT : TAKEN;
+        return letter.row.isFull() ? NO_PLACE_LEFT : TAKEN;
     }
 
     private int settle(Letter letter, int member) {
-        Row row = rowAt(letter.room);
-        if (row == null || row.isFull()) {
-            return NONE;
-        }
-        Entry e = new Entry(ROOM_STEP * letter.room + row.size, letter.kind, time, member, letter.of, letter.words);
-        row.append(e);
+        Entry e = new Entry(letter.row.nextCode(), letter.kind, time, member, letter.of, letter.words);
+        letter.row.append(e);
         Entry said = entryOf(letter.of);
         if (said != null) {
             said.takeNoteOf(e);
@@ -605,14 +598,14 @@ public final class TalkHouse {
 
     /** What a device wrote; it stays in its out when it has been settled. */
     private static final class Letter {
-        final int room;
+        final Row row;
         final int kind;
         final int of;
         final byte[] words;
         int place;
 
-        Letter(int room, int kind, int of, byte[] words) {
-            this.room = room;
+        Letter(Row row, int kind, int of, byte[] words) {
+            this.row = row;
             this.kind = kind;
             this.of = of;
             this.words = words;
@@ -726,6 +719,10 @@ public final class TalkHouse {
             return (inside >> member & 1) == 1;
         }
 
+        int nextCode() {
+            return ROOM_STEP * room + size;
+        }
+
         void append(Entry e) {
             if (isFull()) {
                 return;
@@ -754,7 +751,7 @@ public final class TalkHouse {
         }
 
         int appendMove(int kind, int member, int time) {
-            Entry e = new Entry(ROOM_STEP * room + size, kind, time, member, NONE, NO_TEXT);
+            Entry e = new Entry(nextCode(), kind, time, member, NONE, NO_TEXT);
             append(e);
             return e.place;
         }

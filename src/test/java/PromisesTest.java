@@ -42,6 +42,7 @@ public final class PromisesTest {
         age();
         endsStay();
         count();
+        fullRow();
         wrongInputs();
         wrongInputsChangeNothing();
         System.out.println(wrong == 0 ? "all promises are kept" : wrong + " answers are not as due");
@@ -455,7 +456,9 @@ public final class PromisesTest {
         x.tick(4);
         due("say", say(x, 3, 1, "four"), 1);
         due("edit", post(x, 3, 1, EDIT, 101, "sixsix"), 2);
+        due("not pinned", x.entry(1, 1, 6), 0);
         due("pin", post(x, 3, 1, PIN, 101, "zzz"), 3);
+        due("pinned", x.entry(1, 1, 6), 1);
         due("thread", post(x, 3, 1, THREAD, 101, "under"), 4);
         due("pin", post(x, 3, 1, PIN, 104, ""), 5);
         due("pin", post(x, 3, 1, PIN, 104, ""), 6);
@@ -1104,6 +1107,29 @@ public final class PromisesTest {
     }
 
     // ---- wrong inputs
+
+    /** A full row has no place behind its last one. */
+    private static void fullRow() {
+        TalkHouse x = start("a full row");
+        x.join(0, 0, 0);
+        fillRow(x, 0, 60);
+        due("entry 59", x.entry(0, 59, 0), 6);
+        due("entry 60", x.entry(0, 60, 0), BAD);
+        due("isOf 60", x.isOf(0, 60, 0), BAD);
+        due("maySee 60", x.maySee(0, 0, 60), BAD);
+        due("text 60", x.text(0, 0, 60, 0), BAD);
+        due("kept 60", x.kept(0, 60, 0), BAD);
+        due("take 59", x.take(0, 0, 59), 1);
+        due("take 60", x.take(0, 0, 60), BAD);
+        due("shows 60", x.shows(0, 0, 60, 0), BAD);
+        due("quoted 60", x.quoted(0, 0, 60), BAD);
+        due("behind 60", x.behind(0, 60), BAD);
+        due("thread 60", x.thread(0, 0, 60, 0), BAD);
+        due("mark 59", x.mark(0, 0, 59), 59);
+        due("mark 60", x.mark(0, 0, 60), BAD);
+        due("unread behind the last", x.unread(0, 0), 0);
+        due("sum", x.sum(0, 0), (7L * 31 + 59) * 31 + 6);
+    }
 
     /** Each wild value in each argument where no value so far out is right. */
     private static void wrongInputs() {
