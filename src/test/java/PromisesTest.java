@@ -1,12 +1,7 @@
 /** One part for each promise of the document: ordinary inputs, the edges it names, wrong inputs. */
-public final class PromisesTest {
-    private static final int BAD = TalkHouse.BAD, NO = TalkHouse.NO, FULL = TalkHouse.FULL, NONE = TalkHouse.NONE;
-    private static final int WORD = 0, EDIT = 1, GONE = 2, THREAD = 3, PIN = 4, QUOTE = 5;
+public final class PromisesTest extends Checks {
     private static final int[] WILD = {
         Integer.MIN_VALUE, BAD, NONE, -101, -2, 1001, 1000001, Integer.MAX_VALUE};
-
-    private static int wrong = 0;
-    private static String part = "";
 
     public static void main(String[] args) {
         newObject();
@@ -45,78 +40,7 @@ public final class PromisesTest {
         fullRow();
         wrongInputs();
         wrongInputsChangeNothing();
-        System.out.println(wrong == 0 ? "all promises are kept" : wrong + " answers are not as due");
-        if (wrong != 0) {
-            System.exit(1);
-        }
-    }
-
-    // ---- helpers
-
-    private static void due(String call, long got, long want) {
-        if (got != want) {
-            wrong++;
-            System.out.println(part + ": " + call + " answered " + got + ", due is " + want);
-        }
-    }
-
-    private static TalkHouse start(String name) {
-        part = name;
-        return new TalkHouse();
-    }
-
-    private static void type(TalkHouse x, String words) {
-        for (int k = 0; k < words.length(); k++) {
-            x.feed(words.charAt(k), 1);
-        }
-    }
-
-    /** Writes and sends; answers the place. */
-    private static int post(TalkHouse x, int device, int room, int kind, int of, String words) {
-        type(x, words);
-        int number = x.write(device, room, kind, of);
-        return number < 0 ? number : x.send(device, number);
-    }
-
-    private static int say(TalkHouse x, int device, int room, String words) {
-        return post(x, device, room, WORD, NONE, words);
-    }
-
-    private static void dueText(TalkHouse x, int member, int room, int place, String want) {
-        due("text length", x.text(member, room, place, -1), want.length());
-        for (int k = 0; k < want.length(); k++) {
-            due("text " + k, x.text(member, room, place, k), want.charAt(k));
-        }
-        due("text behind", x.text(member, room, place, want.length()), NONE);
-    }
-
-    private static void dueKept(TalkHouse x, int room, int place, String want) {
-        due("kept length", x.kept(room, place, -1), want.length());
-        for (int k = 0; k < want.length(); k++) {
-            due("kept " + k, x.kept(room, place, k), want.charAt(k));
-        }
-        due("kept behind", x.kept(room, place, want.length()), NONE);
-    }
-
-    private static void dueShows(TalkHouse x, int device, int room, int place, String want) {
-        due("shows length", x.shows(device, room, place, -1), want.length());
-        for (int k = 0; k < want.length(); k++) {
-            due("shows " + k, x.shows(device, room, place, k), want.charAt(k));
-        }
-        due("shows behind", x.shows(device, room, place, want.length()), NONE);
-    }
-
-    /** Fills a row with joins and leaves of member 5, up to so many entries. */
-    private static void fillRow(TalkHouse x, int room, int size) {
-        int have = 0;
-        while (x.entry(room, have, 0) != BAD) {
-            have++;
-        }
-        boolean in = false;
-        for (; have < size; have++) {
-            due("fill", in ? x.leave(room, 5) : x.join(room, 5, 0), have);
-            in = !in;
-        }
+        end("all promises are kept");
     }
 
     // ---- 1 to 5: members, devices, time
