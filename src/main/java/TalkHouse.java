@@ -615,6 +615,7 @@ public final class TalkHouse {
 
     private static final class Entry {
         final int code;
+        final int room;
         final int place;
         final int kind;
         final int time;
@@ -632,6 +633,7 @@ public final class TalkHouse {
 
         Entry(int code, int kind, int time, int member, int of, byte[] words) {
             this.code = code;
+            this.room = code / ROOM_STEP;
             this.place = code % ROOM_STEP;
             this.kind = kind;
             this.time = time;
@@ -835,11 +837,13 @@ public final class TalkHouse {
         }
 
         boolean has(Entry e) {
-            return (copies[e.code / ROOM_STEP] >>> e.place & 1L) == 1L;
+            return e.room >= 0 && e.room < copies.length && (copies[e.room] >>> e.place & 1L) == 1L;
         }
 
         void add(Entry e) {
-            copies[e.code / ROOM_STEP] |= 1L << e.place;
+            if (e.room >= 0 && e.room < copies.length) {
+                copies[e.room] |= 1L << e.place;
+            }
         }
 
         boolean lacks(Entry e) {

@@ -13,15 +13,8 @@ import java.util.regex.Pattern;
 /** The public face, and the rules of LANGUAGE.md that can be seen in the classes or in the source text. */
 public final class LanguageTest {
     private static final Path SOURCE = Path.of("src/main/java/TalkHouse.java");
-    private static final String[] FACE = {
-        "int own(int,int)", "int join(int,int,int)", "int leave(int,int)", "int tick(int)", "int feed(long,int)",
-        "int blank()", "int write(int,int,int,int)", "int send(int,int)", "int out(int,int,int)",
-        "int entry(int,int,int)", "int isOf(int,int,int)", "int maySee(int,int,int)", "int text(int,int,int,int)",
-        "int kept(int,int,int)", "int take(int,int,int)", "int gap(int,int)", "int ask(int,int,int)",
-        "int shows(int,int,int,int)", "int quoted(int,int,int)", "int behind(int,int)", "long sum(int,int)",
-        "int mark(int,int,int)", "int unread(int,int)", "int find(int,int,int)", "int thread(int,int,int,int)",
-        "int hold(int,int,int)", "int age(int,int)", "int count(int)"};
-    private static final String[] CONSTANTS = {"BAD", "FULL", "NO", "NONE"};
+    private static final Path DOCUMENT = Path.of("../shared/DOC.md");
+    private static final int METHODS = 28, CONSTANTS = 4;
     private static final String[] FORBIDDEN = {
         "\\bthrow\\b", "\\bthrows\\b", "\\btry\\b", "\\bcatch\\b", "\\bsynchronized\\b", "\\bassert\\b", "->", "::",
         "\\bpackage\\b", "\\bpublic\\s+(?!final class TalkHouse|static final int BAD|TalkHouse\\(\\)|int |long )",
@@ -31,8 +24,11 @@ public final class LanguageTest {
     private static int wrong = 0;
 
     public static void main(String[] args) throws IOException {
-        face();
-        names();
+        String document = Files.readString(DOCUMENT);
+        Set<String> methods = methodsOf(document);
+        constants(document);
+        face(methods);
+        names(methods);
         sizes();
         source();
         System.out.println(wrong == 0 ? "the language is kept to" : wrong + " rules are broken");
@@ -56,7 +52,29 @@ public final class LanguageTest {
         return s.append(')').toString();
     }
 
-    private static void face() {
+    /** The document's methods, each told as those of the class are. */
+    private static Set<String> methodsOf(String document) {
+        Set<String> all = new TreeSet<>();
+        Matcher m = Pattern.compile("(?m)^    public (int|long) (\\w+)\\((.*)\\);$").matcher(document);
+        while (m.find()) {
+            all.add(m.group(1) + " " + m.group(2) + "(" + m.group(3).replaceAll(" \\w+(, )?", "$1").replace(", ", ",") + ")");
+        }
+        due(all.size() == METHODS, "rule 1: the document has " + all.size() + " methods");
+        return all;
+    }
+
+    private static void constants(String document) {
+        Matcher line = Pattern.compile("(?m)^    public static final int (.*);$").matcher(document);
+        Set<String> want = new TreeSet<>();
+        while (line.find()) {
+            want.addAll(Set.of(line.group(1).split(", ")));
+        }
+        Set<String> got = new TreeSet<>(Set.of("BAD = " + TalkHouse.BAD, "NO = " + TalkHouse.NO,
+            "FULL = " + TalkHouse.FULL, "NONE = " + TalkHouse.NONE));
+        due(got.size() == CONSTANTS && got.equals(want), "rule 1: the constants are " + got + ", due are " + want);
+    }
+
+    private static void face(Set<String> want) {
         Set<String> methods = new TreeSet<>();
         for (Method m : TalkHouse.class.getDeclaredMethods()) {
             if (!Modifier.isPrivate(m.getModifiers())) {
@@ -64,26 +82,26 @@ public final class LanguageTest {
                 methods.add(told(m));
             }
         }
-        due(methods.equals(new TreeSet<>(Set.of(FACE))), "rule 1: the methods are " + methods);
-        Set<String> constants = new TreeSet<>();
+        due(methods.equals(want), "rule 1: the methods are " + methods + ", due are " + want);
+        int constants = 0;
         for (Field f : TalkHouse.class.getDeclaredFields()) {
             boolean fixed = Modifier.isStatic(f.getModifiers()) && Modifier.isFinal(f.getModifiers());
             due(fixed || !Modifier.isStatic(f.getModifiers()), "rule 5: " + f);
             if (!Modifier.isPrivate(f.getModifiers())) {
                 due(Modifier.isPublic(f.getModifiers()) && fixed && f.getType() == int.class, "rule 1: " + f);
-                constants.add(f.getName());
+                constants++;
             }
         }
-        due(constants.equals(new TreeSet<>(Set.of(CONSTANTS))), "rule 1: the constants are " + constants);
+        due(constants == CONSTANTS, "rule 1: " + constants + " constants");
         Constructor<?>[] made = TalkHouse.class.getDeclaredConstructors();
         due(made.length == 1 && made[0].getParameterCount() == 0 && Modifier.isPublic(made[0].getModifiers()),
             "rule 1: the constructor");
         due(Modifier.isFinal(TalkHouse.class.getModifiers()), "rule 1: final");
     }
 
-    private static void names() {
+    private static void names(Set<String> methods) {
         Set<String> open = new TreeSet<>();
-        for (String f : FACE) {
+        for (String f : methods) {
             open.add(f.substring(f.indexOf(' ') + 1, f.indexOf('(')));
         }
         for (Method m : TalkHouse.class.getDeclaredMethods()) {
@@ -102,14 +120,23 @@ public final class LanguageTest {
 
     private static void sizes() {
         due(TalkHouse.class.getDeclaredClasses().length <= 11, "rule 11: classes");
+        sizesOf(TalkHouse.class);
         for (Class<?> c : TalkHouse.class.getDeclaredClasses()) {
-            due(c.getDeclaredFields().length <= 20, "rule 11: fields of " + c);
-            for (Method m : c.getDeclaredMethods()) {
-                due(m.getParameterCount() <= 7, "rule 11: parameters of " + m);
-            }
-            for (Constructor<?> m : c.getDeclaredConstructors()) {
-                due(m.getParameterCount() <= 7, "rule 11: parameters of " + m);
-            }
+            sizesOf(c);
+        }
+    }
+
+    private static void sizesOf(Class<?> c) {
+        int fields = 0;
+        for (Field f : c.getDeclaredFields()) {
+            fields += Modifier.isStatic(f.getModifiers()) ? 0 : 1;
+        }
+        due(fields <= 20, "rule 11: fields of " + c);
+        for (Method m : c.getDeclaredMethods()) {
+            due(m.getParameterCount() <= 7, "rule 11: parameters of " + m);
+        }
+        for (Constructor<?> m : c.getDeclaredConstructors()) {
+            due(m.getParameterCount() <= 7, "rule 11: parameters of " + m);
         }
     }
 
